@@ -109,7 +109,7 @@ public final class PostGate {
             return NONE;
         }
         out.clear();
-        letter.addField(out, k, relaxed);
+        letter.addFieldWithout(out, k, relaxed, 0, 0);
         return out.size;
     }
 
@@ -247,26 +247,26 @@ public final class PostGate {
             addRange(from, 0, from.size);
         }
 
-        boolean begins(int start, int end, String text) {
-            if (end - start < text.length()) {
+        boolean is(int start, int end, String text) {
+            if (start < 0 || end > size || end - start != text.length()) {
                 return false;
             }
-            for (int i = 0; i < text.length(); i++) {
-                if (at(start + i) != text.charAt(i)) {
+            for (int i = start; i < end; i++) {
+                if (row[i] != text.charAt(i - start)) {
                     return false;
                 }
             }
             return true;
         }
 
-        boolean is(int start, int end, String text) {
-            return end - start == text.length() && begins(start, end, text);
+        boolean begins(int start, int end, String text) {
+            return end - start >= text.length() && is(start, start + text.length(), text);
         }
 
         /** Where the sign first stands in the range; its end if nowhere. */
         int find(int sign, int start, int end) {
-            for (int i = start; i < end; i++) {
-                if (at(i) == sign) {
+            for (int i = Math.max(0, start); i < end && i < size; i++) {
+                if (row[i] == sign) {
                     return i;
                 }
             }
@@ -281,6 +281,18 @@ public final class PostGate {
                 }
             }
             return start - 1;
+        }
+
+        /** Where the part begins that has so many dots before it. */
+        int partStart(int dots) {
+            int left = dots;
+            for (int i = 0; i < size && left > 0; i++) {
+                left -= row[i] == '.' ? 1 : 0;
+                if (left == 0) {
+                    return i + 1;
+                }
+            }
+            return 0;
         }
 
         boolean isName(int start, int end) {
@@ -300,7 +312,15 @@ public final class PostGate {
         }
 
         boolean same(Bytes other) {
-            return size == other.size && !over && !other.over && endsLike(other, size);
+            if (size != other.size || over || other.over) {
+                return false;
+            }
+            for (int i = 0; i < size; i++) {
+                if (row[i] != other.row[i]) {
+                    return false;
+                }
+            }
+            return true;
         }
 
         boolean isUnder(Bytes other) {
@@ -373,10 +393,6 @@ public final class PostGate {
         private final Bytes value = new Bytes(VALUE_ROOM);
         private int sort = 0;
         private int address = 0;
-
-        boolean is(int wanted, Bytes called) {
-            return sort == wanted && name.same(called);
-        }
     }
 
     /** THE DIRECTORY. */
@@ -431,20 +447,19 @@ public final class PostGate {
 
         boolean has(int sort, Bytes name) {
             for (int i = 0; i < count; i++) {
-                if (entries[i].is(sort, name)) {
+                if (entries[i].sort == sort && entries[i].name.same(name)) {
                     return true;
                 }
             }
             return false;
         }
 
-        boolean isTroubled(Bytes name) {
-            return has(TROUBLES, name);
-        }
-
         boolean hasAddress(Bytes name, int address, int bits) {
             for (int i = 0; i < count; i++) {
-                if (entries[i].is(ADDRESSES, name) && Term.isSameNet(entries[i].address, address, bits)) {
+                if (entries[i].sort != ADDRESSES || !Term.isSameNet(entries[i].address, address, bits)) {
+                    continue;
+                }
+                if (entries[i].name.same(name)) {
                     return true;
                 }
             }
@@ -455,19 +470,29 @@ public final class PostGate {
             return entries[i >= 0 && i < MOST ? i : 0].value;
         }
 
-        /** The first TEXT of the name, from the given row on, that begins so. */
-        int textOf(Bytes name, String start, int row) {
-            for (int i = Math.max(0, row); i < count; i++) {
-                if (entries[i].is(TEXTS, name) && entries[i].value.begins(0, entries[i].value.size, start)) {
+        int firstText(Bytes name) {
+            for (int i = 0; i < count; i++) {
+                if (entries[i].sort == TEXTS && entries[i].name.same(name)) {
                     return i;
                 }
             }
             return NO_TEXT;
         }
 
-        int onlyText(Bytes name, String start) {
-            int first = textOf(name, start, 0);
-            return first >= 0 && textOf(name, start, first + 1) >= 0 ? MORE_TEXTS : first;
+        /** The one TEXT of the name that begins so, with a blank or nothing behind if that is asked for. */
+        int onlyText(Bytes name, String start, boolean blankBehind) {
+            int found = NO_TEXT;
+            for (int i = 0; i < count; i++) {
+                Bytes value = entries[i].value;
+                if (entries[i].sort != TEXTS || !entries[i].name.same(name) || !value.begins(0, value.size, start)) {
+                    continue;
+                }
+                if (blankBehind && value.size > start.length() && value.at(start.length()) != 32) {
+                    continue;
+                }
+                found = found == NO_TEXT ? i : MORE_TEXTS;
+            }
+            return found;
         }
 
         /** Where in the name its HOUSE begins. */
@@ -509,23 +534,60 @@ public final class PostGate {
         }
 
         void read(Bytes text, int from, int to) {
-            kind = WRONG;
-            bits = 32;
-            start = to;
+            readKind(text, from, to);
             stop = to;
+            bits = 32;
+            if (kind == IP4 || kind == A || kind == MX) {
+                stop = text.find('/', start, to);
+                bits = stop == to ? 32 : numberOf(text, stop + 1, to, 2);
+            }
+            boolean right = bits >= 0 && bits <= 32;
+            if (kind == IP4) {
+                right = right && readQuad(text, start, stop);
+            } else if (kind == A || kind == MX) {
+                boolean bare = text.at(start - 1) != ':';
+                right = right && (bare ? start == stop : isHost(text, start, stop));
+            } else if (kind == INCLUDE || kind == EXISTS || kind == REDIRECT) {
+                right = isHost(text, start, stop);
+            }
+            kind = right ? kind : WRONG;
+        }
+
+        /** The kind, the SIGN, and where what is behind the word begins. */
+        private void readKind(Bytes text, int from, int to) {
             sign = '+';
             if (text.begins(from, to, "redirect=")) {
-                readHost(text, REDIRECT, from + 9, to);
+                setKind(REDIRECT, from + 9);
                 return;
             }
             if (isOther(text, from, to)) {
-                kind = OTHER;
+                setKind(OTHER, to);
                 return;
             }
             int first = text.at(from);
             boolean signed = first == '+' || first == '?' || first == '~' || first == '-';
             sign = signed ? first : '+';
-            readMatcher(text, signed ? from + 1 : from, to);
+            int word = signed ? from + 1 : from;
+            if (text.is(word, to, "all")) {
+                setKind(ALL, to);
+            } else if (text.begins(word, to, "include:")) {
+                setKind(INCLUDE, word + 8);
+            } else if (text.begins(word, to, "exists:")) {
+                setKind(EXISTS, word + 7);
+            } else if (text.begins(word, to, "ip4:")) {
+                setKind(IP4, word + 4);
+            } else if (text.begins(word, to, "mx")) {
+                setKind(MX, text.begins(word, to, "mx:") ? word + 3 : word + 2);
+            } else if (text.begins(word, to, "a")) {
+                setKind(A, text.begins(word, to, "a:") ? word + 2 : word + 1);
+            } else {
+                setKind(WRONG, to);
+            }
+        }
+
+        private void setKind(int wanted, int behind) {
+            kind = wanted;
+            start = behind;
         }
 
         private static boolean isOther(Bytes text, int from, int to) {
@@ -540,49 +602,6 @@ public final class PostGate {
                 }
             }
             return true;
-        }
-
-        private void readMatcher(Bytes text, int from, int to) {
-            if (text.is(from, to, "all")) {
-                kind = ALL;
-            } else if (text.begins(from, to, "include:")) {
-                readHost(text, INCLUDE, from + 8, to);
-            } else if (text.begins(from, to, "exists:")) {
-                readHost(text, EXISTS, from + 7, to);
-            } else if (text.begins(from, to, "ip4:")) {
-                readNet(text, from + 4, to);
-            } else if (text.begins(from, to, "mx")) {
-                readHostAndBits(text, MX, from + 2, to);
-            } else if (text.begins(from, to, "a")) {
-                readHostAndBits(text, A, from + 1, to);
-            }
-        }
-
-        private void readHost(Bytes text, int wanted, int from, int to) {
-            if (isHost(text, from, to)) {
-                start = from;
-                stop = to;
-                kind = wanted;
-            }
-        }
-
-        private void readHostAndBits(Bytes text, int wanted, int from, int to) {
-            int slash = text.find('/', from, to);
-            if (!readBits(text, slash, to)) {
-                return;
-            }
-            if (from == slash) {
-                kind = wanted;
-            } else if (text.at(from) == ':') {
-                readHost(text, wanted, from + 1, slash);
-            }
-        }
-
-        private void readNet(Bytes text, int from, int to) {
-            int slash = text.find('/', from, to);
-            if (readBits(text, slash, to) && readQuad(text, from, slash)) {
-                kind = IP4;
-            }
         }
 
         private boolean readQuad(Bytes text, int from, int to) {
@@ -602,12 +621,6 @@ public final class PostGate {
                 dot = i;
             }
             return numbers == 4;
-        }
-
-        /** The bits behind the slash; 32 if there is no slash. */
-        private boolean readBits(Bytes text, int slash, int to) {
-            bits = slash == to ? 32 : numberOf(text, slash + 1, to, 2);
-            return bits >= 0 && bits <= 32;
         }
 
         /** The number that the range tells with one digit at least and so many at most (nine or less); else -1. */
@@ -667,6 +680,7 @@ public final class PostGate {
         private static final int MOST_COUNTED = 10, MOST_VOIDS = 2, LOCAL_ROOM = 30;
         // Each CHECK within a CHECK is COUNTED before, so that there are never more levels open.
         private static final int LEVELS = MOST_COUNTED + 1;
+        private static final int NO_REDIRECT = 0, WRONG_TERM = -1;
         private static final String START = "v=spf1";
 
         private final Directory directory;
@@ -746,75 +760,64 @@ public final class PostGate {
             if (level >= LEVELS) {
                 return BROKEN;
             }
-            if (directory.isTroubled(names[level])) {
+            if (directory.has(Directory.TROUBLES, names[level])) {
                 return TROUBLE;
             }
-            int row = permitRow(names[level]);
+            int row = directory.onlyText(names[level], START, true);
             if (row < 0) {
                 return row == Directory.NO_TEXT ? NOTHING : BROKEN;
             }
             Bytes text = directory.valueAt(row);
-            return areTerms(text, terms[level]) ? walk(text, level) : BROKEN;
-        }
-
-        /** The row of the one TEXT that tells who may send. */
-        private int permitRow(Bytes name) {
-            int found = Directory.NO_TEXT;
-            for (int i = 0; i < Directory.MOST; i++) {
-                if (directory.textOf(name, START, i) != i || !isBlankOrEnd(directory.valueAt(i), START.length())) {
+            Term term = terms[level];
+            int redirect = readTerms(text, term);
+            if (redirect == WRONG_TERM) {
+                return BROKEN;
+            }
+            for (int i = START.length() + 1; i < text.size; i++) {
+                if (!startsTerm(text, i)) {
                     continue;
                 }
-                found = found == Directory.NO_TEXT ? i : Directory.MORE_TEXTS;
+                term.read(text, i, text.find(32, i, text.size));
+                int answer = match(text, level);
+                if (answer != NOTHING) {
+                    return answer == PASS ? answerOf(term.sign) : answer;
+                }
             }
-            return found;
-        }
-
-        private static boolean isBlankOrEnd(Bytes text, int at) {
-            return at >= text.size || text.at(at) == 32;
+            if (redirect == NO_REDIRECT) {
+                return NEUTRAL;
+            }
+            term.read(text, redirect, text.find(32, redirect, text.size));
+            return follow(text, level);
         }
 
         private static boolean startsTerm(Bytes text, int at) {
             return text.at(at - 1) == 32 && text.at(at) != 32;
         }
 
-        private static boolean areTerms(Bytes text, Term term) {
-            boolean redirected = false;
+        /** Where redirect stands, if all TERMS are right and it is there. */
+        private static int readTerms(Bytes text, Term term) {
+            int redirect = NO_REDIRECT;
             for (int i = START.length() + 1; i < text.size; i++) {
                 if (!startsTerm(text, i)) {
                     continue;
                 }
                 term.read(text, i, text.find(32, i, text.size));
                 boolean redirects = term.kind == Term.REDIRECT;
-                if (term.kind == Term.WRONG || redirects && redirected) {
-                    return false;
+                if (term.kind == Term.WRONG || redirects && redirect != NO_REDIRECT) {
+                    return WRONG_TERM;
                 }
-                redirected = redirected || redirects;
+                redirect = redirects ? i : redirect;
             }
-            return true;
+            return redirect;
         }
 
-        private int walk(Bytes text, int level) {
-            Term term = terms[level];
-            int redirect = 0;
-            for (int i = START.length() + 1; i < text.size; i++) {
-                if (!startsTerm(text, i)) {
-                    continue;
-                }
-                term.read(text, i, text.find(32, i, text.size));
-                redirect = term.kind == Term.REDIRECT ? i : redirect;
-                int answer = match(text, level);
-                if (answer != NOTHING) {
-                    return answer == PASS ? answerOf(term.sign) : answer;
-                }
-            }
-            if (redirect == 0) {
-                return NEUTRAL;
-            }
-            term.read(text, redirect, text.find(32, redirect, text.size));
+        private int follow(Bytes text, int level) {
             if (isCountedOut()) {
                 return BROKEN;
             }
-            return checkOther(text, level);
+            expand(text, level);
+            int answer = check(level + 1);
+            return answer == NOTHING ? BROKEN : answer;
         }
 
         private static int answerOf(int sign) {
@@ -838,38 +841,31 @@ public final class PostGate {
         /** PASS if the TERM of the level matches, NOTHING if not; TROUBLE or BROKEN if that ends it all. */
         private int match(Bytes text, int level) {
             Term term = terms[level];
-            switch (term.kind) {
-                case Term.ALL:
-                    return PASS;
-                case Term.IP4:
-                    return Term.isSameNet(address, term.address, term.bits) ? PASS : NOTHING;
-                case Term.INCLUDE:
-                    return isCountedOut() ? BROKEN : matchOther(text, level);
-                case Term.A:
-                case Term.MX:
-                case Term.EXISTS:
-                    return isCountedOut() ? BROKEN : look(text, level);
-                default:
-                    return NOTHING;
+            if (term.kind == Term.ALL) {
+                return PASS;
             }
-        }
-
-        private int matchOther(Bytes text, int level) {
-            int answer = checkOther(text, level);
-            return answer == PASS || answer == TROUBLE || answer == BROKEN ? answer : NOTHING;
-        }
-
-        private int checkOther(Bytes text, int level) {
+            if (term.kind == Term.IP4) {
+                return Term.isSameNet(address, term.address, term.bits) ? PASS : NOTHING;
+            }
+            if (term.kind == Term.REDIRECT || term.kind == Term.OTHER) {
+                return NOTHING;
+            }
+            if (isCountedOut()) {
+                return BROKEN;
+            }
             expand(text, level);
+            if (term.kind != Term.INCLUDE) {
+                return look(term, names[level + 1]);
+            }
             int answer = check(level + 1);
+            if (answer == NEUTRAL || answer == SOFT || answer == FAIL) {
+                return NOTHING;
+            }
             return answer == NOTHING ? BROKEN : answer;
         }
 
-        private int look(Bytes text, int level) {
-            expand(text, level);
-            Term term = terms[level];
-            Bytes name = names[level + 1];
-            if (directory.isTroubled(name)) {
+        private int look(Term term, Bytes name) {
+            if (directory.has(Directory.TROUBLES, name)) {
                 return TROUBLE;
             }
             if (!directory.has(term.kind == Term.MX ? Directory.EXCHANGES : Directory.ADDRESSES, name)) {
@@ -884,11 +880,11 @@ public final class PostGate {
 
         private int lookAtExchanges(Bytes name, int bits) {
             for (int i = 0; i < directory.count; i++) {
-                if (!directory.entries[i].is(Directory.EXCHANGES, name)) {
+                if (directory.entries[i].sort != Directory.EXCHANGES || !directory.entries[i].name.same(name)) {
                     continue;
                 }
                 Bytes exchange = directory.valueAt(i);
-                if (directory.isTroubled(exchange)) {
+                if (directory.has(Directory.TROUBLES, exchange)) {
                     return TROUBLE;
                 }
                 if (directory.hasAddress(exchange, address, bits)) {
@@ -964,16 +960,9 @@ public final class PostGate {
                 if (k > 0) {
                     target.add('.');
                 }
-                addPart(piece, turned ? count - 1 - k : parts - count + k, target);
+                int start = piece.partStart(turned ? count - 1 - k : parts - count + k);
+                target.addRange(piece, start, piece.find('.', start, piece.size));
             }
-        }
-
-        private static void addPart(Bytes piece, int wanted, Bytes target) {
-            int start = 0;
-            for (int k = 0; k < wanted; k++) {
-                start = piece.find('.', start, piece.size) + 1;
-            }
-            target.addRange(piece, start, piece.find('.', start, piece.size));
         }
     }
 
@@ -1084,10 +1073,6 @@ public final class PostGate {
                 left--;
             }
             return -1;
-        }
-
-        void addField(Bytes target, int k, boolean relaxed) {
-            addFieldWithout(target, k, relaxed, 0, 0);
         }
 
         /** The FIELD made PLAIN, but for what stands in the range. */
@@ -1261,19 +1246,23 @@ public final class PostGate {
         }
 
         boolean is(String name, String value) {
-            return has(name) && text.is(startOf(name), endOf(name), value);
+            int k = rowOf(name);
+            return k >= 0 && text.is(signs[k] + 1, ends[k], value);
         }
 
         boolean isOrMisses(String name, String value) {
-            return !has(name) || is(name, value);
+            int k = rowOf(name);
+            return k < 0 || text.is(signs[k] + 1, ends[k], value);
         }
 
         boolean isNameAt(String name) {
             return text.isName(startOf(name), endOf(name));
         }
 
+        /** The number of at most nine digits that is its value; -1 if it is none. */
         int numberAt(String name) {
-            return Term.numberOf(text, startOf(name), endOf(name), 9);
+            int k = rowOf(name);
+            return k < 0 ? -1 : Term.numberOf(text, signs[k] + 1, ends[k], 9);
         }
 
         boolean decode(String name, Bytes target, int wanted) {
@@ -1491,6 +1480,8 @@ public final class PostGate {
         private final boolean[] taken = new boolean[Message.MOST];
         private final Sha sha = new Sha();
         private final Power powers = new Power();
+        private boolean fieldRelaxed = false;
+        private boolean bodyRelaxed = false;
 
         Sealer(Directory directory) {
             this.directory = directory;
@@ -1509,7 +1500,13 @@ public final class PostGate {
             if (found != PASS) {
                 return found;
             }
-            return isBodyRight(letter) && isSigned(letter, field) ? PASS : FAIL;
+            if (!isBodyRight(letter)) {
+                return FAIL;
+            }
+            work.clear();
+            addListed(letter);
+            addOwn(letter, field);
+            return isSigned() ? PASS : FAIL;
         }
 
         private boolean isWell(Message letter, int field) {
@@ -1518,7 +1515,7 @@ public final class PostGate {
             }
             return seal.is("v", "1") && seal.is("a", "rsa-sha256") && seal.isNameAt("d") && seal.isNameAt("s")
                     && seal.decode("bh", bodySum, SUM) && seal.decode("b", signature, WIDTH)
-                    && isFieldList() && isPlainness()
+                    && isFieldList() && readPlainness()
                     && isNumberOrMisses("l") && isNumberOrMisses("x");
         }
 
@@ -1526,17 +1523,19 @@ public final class PostGate {
             return !seal.has(name) || seal.numberAt(name) >= 0;
         }
 
-        private boolean isPlainness() {
+        private boolean readPlainness() {
+            fieldRelaxed = false;
+            bodyRelaxed = false;
             if (!seal.has("c")) {
                 return true;
             }
-            int slash = seal.text.find('/', seal.startOf("c"), seal.endOf("c"));
-            boolean alone = slash == seal.endOf("c");
-            return isPlainWord(seal.startOf("c"), slash) && (alone || isPlainWord(slash + 1, seal.endOf("c")));
-        }
-
-        private boolean isPlainWord(int start, int end) {
-            return seal.text.is(start, end, "simple") || seal.text.is(start, end, "relaxed");
+            int end = seal.endOf("c");
+            int start = seal.startOf("c");
+            int slash = seal.text.find('/', start, end);
+            fieldRelaxed = seal.text.is(start, slash, "relaxed");
+            bodyRelaxed = seal.text.is(slash, end, "/relaxed");
+            return (fieldRelaxed || seal.text.is(start, slash, "simple"))
+                    && (bodyRelaxed || slash == end || seal.text.is(slash, end, "/simple"));
         }
 
         private boolean isFieldList() {
@@ -1570,24 +1569,22 @@ public final class PostGate {
             keyName.addRange(seal.text, seal.startOf("s"), seal.endOf("s"));
             keyName.addText("._domainkey.");
             keyName.addRange(domain, 0, domain.size);
-            if (directory.isTroubled(keyName)) {
+            if (directory.has(Directory.TROUBLES, keyName)) {
                 return TROUBLE;
             }
-            int row = directory.textOf(keyName, "", 0);
-            return row >= 0 && isKey(directory.valueAt(row)) ? PASS : BROKEN;
-        }
-
-        private boolean isKey(Bytes text) {
-            if (!key.read(text, 0, text.size) || !key.decode("p", modulus, WIDTH)) {
-                return false;
+            int row = directory.firstText(keyName);
+            if (row < 0) {
+                return BROKEN;
             }
-            boolean fits = modulus.at(0) >= 128 && (modulus.at(WIDTH - 1) & 1) == 1;
-            return fits && key.isOrMisses("v", "DKIM1") && key.isOrMisses("k", "rsa");
+            Bytes text = directory.valueAt(row);
+            boolean told = key.read(text, 0, text.size) && key.decode("p", modulus, WIDTH)
+                    && key.isOrMisses("v", "DKIM1") && key.isOrMisses("k", "rsa");
+            return told && modulus.at(0) >= 128 && (modulus.at(WIDTH - 1) & 1) == 1 ? PASS : BROKEN;
         }
 
         private boolean isBodyRight(Message letter) {
             work.clear();
-            letter.addBody(work, isBodyRelaxed());
+            letter.addBody(work, bodyRelaxed);
             int length = seal.has("l") ? seal.numberAt("l") : work.size;
             if (length > work.size) {
                 return false;
@@ -1596,20 +1593,7 @@ public final class PostGate {
             return sum.same(bodySum);
         }
 
-        private boolean isBodyRelaxed() {
-            int start = seal.startOf("c");
-            int end = seal.endOf("c");
-            return seal.text.is(seal.text.find('/', start, end), end, "/relaxed");
-        }
-
-        private boolean isFieldRelaxed() {
-            return seal.text.begins(seal.startOf("c"), seal.endOf("c"), "relaxed");
-        }
-
-        private boolean isSigned(Message letter, int field) {
-            work.clear();
-            addListed(letter);
-            addOwn(letter, field);
+        private boolean isSigned() {
             sha.sumOf(work, work.size, sum);
             writeDue();
             powers.of(signature, modulus, power);
@@ -1638,7 +1622,7 @@ public final class PostGate {
                     continue;
                 }
                 taken[k] = true;
-                letter.addField(work, k, isFieldRelaxed());
+                letter.addFieldWithout(work, k, fieldRelaxed, 0, 0);
                 work.add(10);
                 return;
             }
@@ -1655,7 +1639,7 @@ public final class PostGate {
                 }
                 int sign = text.find('=', start, i);
                 if (isLetterB(text, start, sign)) {
-                    letter.addFieldWithout(work, field, isFieldRelaxed(), sign + 1, i);
+                    letter.addFieldWithout(work, field, fieldRelaxed, sign + 1, i);
                     return;
                 }
                 start = i + 1;
@@ -1714,17 +1698,17 @@ public final class PostGate {
                 return NEUTRAL;
             }
             setPlace(0);
-            if (directory.isTroubled(place)) {
+            if (directory.has(Directory.TROUBLES, place)) {
                 return TROUBLE;
             }
-            int row = directory.onlyText(place, START);
+            int row = directory.onlyText(place, START, false);
             boolean own = row >= 0;
             if (!own) {
                 setPlace(directory.houseStart(domain));
-                if (directory.isTroubled(place)) {
+                if (directory.has(Directory.TROUBLES, place)) {
                     return TROUBLE;
                 }
-                row = directory.onlyText(place, START);
+                row = directory.onlyText(place, START, false);
             }
             return row < 0 ? NOTHING : readRecord(directory.valueAt(row), own);
         }

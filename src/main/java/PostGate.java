@@ -591,11 +591,11 @@ public final class PostGate {
         }
 
         private static boolean isOther(Bytes text, int from, int to) {
-            int equals = text.find('=', from, to);
-            if (equals == to || !Bytes.isSmall(text.at(from))) {
+            int sign = text.find('=', from, to);
+            if (sign == to || !Bytes.isSmall(text.at(from))) {
                 return false;
             }
-            for (int i = from; i < equals; i++) {
+            for (int i = from; i < sign; i++) {
                 int c = text.at(i);
                 if (!Bytes.isSmall(c) && !Bytes.isDigit(c) && c != '-' && c != '_' && c != '.') {
                     return false;
@@ -1342,7 +1342,9 @@ public final class PostGate {
             int high = (e >>> 6 | e << 26) ^ (e >>> 11 | e << 21) ^ (e >>> 25 | e << 7);
             int low = (a >>> 2 | a << 30) ^ (a >>> 13 | a << 19) ^ (a >>> 22 | a << 10);
             int first = turn[7] + high + choice + FACTORS[i] + words[i];
-            System.arraycopy(turn, 0, turn, 1, 7);
+            for (int k = 7; k > 0; k--) {
+                turn[k] = turn[k - 1];
+            }
             turn[4] += first;
             turn[0] = first + low + most;
         }
@@ -1426,7 +1428,9 @@ public final class PostGate {
             for (int i = 0; i < LIMBS; i++) {
                 addTimes(one, other[i]);
                 addTimes(modulus, sum[0] * factor & MASK);
-                System.arraycopy(sum, 1, sum, 0, LIMBS + 1);
+                for (int k = 0; k <= LIMBS; k++) {
+                    sum[k] = sum[k + 1];
+                }
                 sum[LIMBS + 1] = 0;
             }
             reduce();

@@ -11,6 +11,7 @@ public final class DirectoryTest {
         forget();
         houseWithoutSuffix();
         houseWithSuffixes();
+        houseOfTheOnlySuffix();
         wrongHouses();
         Gate.finish("DirectoryTest");
     }
@@ -120,6 +121,15 @@ public final class DirectoryTest {
         gate.suffix("x.a.b.net");
         Gate.due("above a SUFFIX", gate.house("a.b.net"), "b.net");
         Gate.due("one part more", gate.house("y.x.a.b.net"), "y.x.a.b.net");
+    }
+
+    private static void houseOfTheOnlySuffix() {
+        Gate gate = new Gate();
+        gate.suffix("a.b.com");
+        Gate.due("it is its own", gate.house("a.b.com"), "a.b.com");
+        Gate.due("one part more", gate.house("x.a.b.com"), "x.a.b.com");
+        Gate.due("two parts more", gate.house("y.x.a.b.com"), "x.a.b.com");
+        Gate.due("beside it", gate.house("xa.b.com"), "b.com");
     }
 
     private static void wrongHouses() {

@@ -9,6 +9,7 @@ public final class MessageTest {
         relaxedBodies();
         simpleFields();
         relaxedFields();
+        firstField();
         noFields();
         largest();
         Gate.finish("MessageTest");
@@ -58,8 +59,8 @@ public final class MessageTest {
 
     private static void seals() {
         Gate gate = new Gate();
-        gate.message("DKIM-Signature: a\nFrom: b\ndkim-signature:\nDkim-sIGNATURE: v=1;;\nDKIM-Signatures: c\n\n"
-                + "DKIM-Signature: d");
+        gate.message("DKIM-Signature: a\nFrom: b\ndkim-signature:\nDkim-sIGNATURE: v=1;;\nDKIM-Signatures: c\nEKIM-Signature: e\n\n"
+                + "DKIM-Signature: d\nXKIM-Signature: e");
         Gate.due("SEALS in any letters", gate.gate.seals(), 3);
         gate.message("From: b");
         Gate.due("no SEAL", gate.gate.seals(), 0);
@@ -128,8 +129,16 @@ public final class MessageTest {
         field("a:x\n y\n\tz", "a:x y z");
         field("a: \n \n x \n ", "a:x");
         field("a: x \n  y", "a:x y");
+        field("AZaz-09:AZ", "azaz-09:AZ");
         field("aBC:\n\tQ \n \tR ", "abc:Q R");
         field("a:\u00c4 \u0000", "a:\u00c4 \u0000");
+    }
+
+    private static void firstField() {
+        Gate gate = new Gate();
+        gate.message("A: x\n y\n\tz\nb: c\n");
+        Gate.due("the first FIELD, simple", gate.plainField(0, false), "A: x\n y\n\tz");
+        Gate.due("the first FIELD, relaxed", gate.plainField(0, true), "a:x y z");
     }
 
     private static void noFields() {

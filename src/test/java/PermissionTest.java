@@ -79,12 +79,12 @@ public final class PermissionTest {
 
     private static void terms() {
         String[] right = {"all", "a:a.com/0", "mx/32", "ip4:0.0.0.0/00", "ip4:255.255.255.255", "ip4:001.02.3.4/5",
-            "exp=", "exp=%{", "x=\u00ff\t", "a=b", "a-b_c.9=d=e", "redirec=x", "all=all", "include=x", "redirect-=x"};
+            "exp=", "exp=%{", "x=\u00ff\t", "a=b", "a-b_c.9=d=e", "redirec=x", "all=all", "include=x", "redirect-=x", "exists:~!", "a:~", "a:.0"};
         for (String term : right) {
             due("v=spf1 ip4:192.0.2.1 " + term, 2);
         }
         String[] wrong = {"x", "al", "alls", "All", "all:", "all/1", "+", "++all", "*all", "include", "include:",
-            "include:\u00ff", "include:a\t", "include:%", "include:a%", "include:%{d", "include:%{d0}", "include:%{dr2}",
+            "include:\u00ff", "include:\u007f", "include:a\u001f", "include:a\t", "include:%", "include:a%", "include:%{d", "include:%{d0}", "include:%{dr2}",
             "include:%{x}", "include:%{D}", "include:%{d22}", "include:%{d2rr}", "include:%a", "include:%{}", "a:",
             "a:/24", "a/", "a/33", "a/032", "a/x", "a/-1", "a:b/c", "a:b/24/24", "ab", "mxx", "mx:", "mx/99", "m", "ip4",
             "ip4:", "ip4:1.2.3", "ip4:1.2.3.4.5", "ip4:1.2.3.256", "ip4:1.2.3.0004", "ip4:1..3.4", "ip4:1.2.3.4/",

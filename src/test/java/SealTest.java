@@ -106,7 +106,7 @@ public final class SealTest {
             {"d=a.com", "d=a..com"}, {"d=a.com", "d="}, {"s=k; ", ""}, {"s=k", "s=K"}, {"s=k", "s=k."}, {"h=from; ", ""},
             {"h=from", "h="}, {"h=from", "h=to"}, {"h=from", "h=from:"}, {"h=from", "h=:from"}, {"h=from", "h=from::to"},
             {"h=from", "h=from:a_b"}, {"h=from", "h=from:abcdefghij-1234567890"}, {"h=from", "h=fro:m"},
-            {"h=from", "h=fromm"}, {"s=k;", "s=k;;"}, {"s=k;", "s=k; s=k;"}, {"s=k;", "s=k; ;"}, {"s=k;", "s=k; x;"},
+            {"h=from", "h=fromm"}, {"h=from", "h=xrom"}, {"h=from", "h=frox"}, {"s=k;", "s=k;;"}, {"s=k;", "s=k; s=k;"}, {"s=k;", "s=k; ;"}, {"s=k;", "s=k; x;"},
             {"s=k;", "s=k; =x;"}, {"s=k;", "s=k; abcdefghi=x;"}, {"s=k;", "s=k; X=x;"}, {"s=k;", "s=k; a1=x;"},
             {"b=B!", ""}, {"b=B!", "b="}, {"v=1", ";v=1"}, {"b=B!", "b=B!;;"}};
         for (String[] change : changes) {
@@ -273,6 +273,9 @@ public final class SealTest {
         }
         String first = "DKIM-Signature: b=B!; v=1; a=rsa-sha256; d=a.com; s=k; h=from; bh=" + sum("");
         due("b first", first, 2);
+        due("no blanks", first.replace(" ", ""), 2);
+        due("no blanks, relaxed", first.replace(" ", "") + ";c=relaxed", 2);
+        due("no blanks, b last", seal("").replace(" ", ""), 2);
         String text = SIGNER.message(BODY, FROM, first);
         String b = text.substring(text.indexOf("b=") + 2, text.indexOf("; v=1"));
         Gate.due("WHITE within b", answer(text.replace(b, b.substring(0, 40) + "\n " + b.substring(40)), 5), 2);

@@ -129,6 +129,9 @@ public final class DirectoryTest {
         Gate.due("it is its own", gate.house("a.b.com"), "a.b.com");
         Gate.due("one part more", gate.house("x.a.b.com"), "x.a.b.com");
         Gate.due("two parts more", gate.house("y.x.a.b.com"), "x.a.b.com");
+        gate.suffix("b.cox");
+        Gate.due("one byte beside it", gate.house("z.a.b.com"), "z.a.b.com");
+        Gate.due("one byte beside the other", gate.house("a.b.coy"), "b.coy");
         Gate.due("beside it", gate.house("xa.b.com"), "b.com");
     }
 

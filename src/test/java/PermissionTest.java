@@ -79,13 +79,13 @@ public final class PermissionTest {
 
     private static void terms() {
         String[] right = {"all", "a:a.com/0", "mx/32", "ip4:0.0.0.0/00", "ip4:255.255.255.255", "ip4:001.02.3.4/5",
-            "exp=", "exp=%{", "x=\u00ff\t", "a=b", "a-b_c.9=d=e", "redirec=x", "all=all", "include=x", "redirect-=x", "exists:~!", "a:~", "a:.0"};
+            "exp=", "exp=%{", "x=\u00ff\t", "a=b", "a-b_c.9=d=e", "redirec=x", "all=all", "include=x", "redirect-=x", "exists:~!", "exists:%%%%", "exists:%%%_%-%{d}", "a:~", "a:.0"};
         for (String term : right) {
             due("v=spf1 ip4:192.0.2.1 " + term, 2);
         }
         String[] wrong = {"x", "al", "alls", "All", "all:", "all/1", "+", "++all", "*all", "include", "include:",
             "include:\u00ff", "include:\u007f", "include:a\u001f", "include:a\t", "include:%", "include:a%", "include:%{d", "include:%{d0}", "include:%{dr2}",
-            "include:%{x}", "include:%{D}", "include:%{d22}", "include:%{d2rr}", "include:%a", "include:%{}", "a:",
+            "include:%{x}", "include:%{D}", "include:%{d22}", "include:%{d2rr}", "include:%a", "include:%%%", "include:%{}", "a:",
             "a:/24", "a/", "a/33", "a/032", "a/x", "a/-1", "a:b/c", "a:b/24/24", "ab", "mxx", "mx:", "mx/99", "m", "ip4",
             "ip4:", "ip4:1.2.3", "ip4:1.2.3.4.5", "ip4:1.2.3.256", "ip4:1.2.3.0004", "ip4:1..3.4", "ip4:1.2.3.4/",
             "ip4:1.2.3.4/33", "ip4:1.2.3.x", "ip4:.1.2.3", "exists", "exists:", "redirect=", "redirect=%",
@@ -138,6 +138,11 @@ public final class PermissionTest {
         gate = at(HERE, "a.com", "v=spf1 ?a:b.com/24 -all");
         gate.address("b.com", HERE + 200);
         dueCost("a with bits", gate, 1, 1, 0);
+        gate = new Gate();
+        gate.address("a.com", HERE);
+        gate.text("a.com", "v=spf1 a -all");
+        gate.sender("joe@a.com", HERE);
+        dueCost("an ADDRESS as the first entry", gate, 2, 1, 0);
         gate = at(HERE, "a.com", "v=spf1 a/0 -all");
         dueCost("no ADDRESS, no match, for any bits", gate, 3, 1, 1);
         gate.address("a.com", 5);
@@ -158,6 +163,12 @@ public final class PermissionTest {
         gate.exchange("b.com", "m.com");
         gate.address("m.com", 0xC000FFFF);
         dueCost("mx with a D and bits", gate, 4, 1, 0);
+        gate = new Gate();
+        gate.exchange("a.com", "m.com");
+        gate.address("m.com", HERE);
+        gate.text("a.com", "v=spf1 mx -all");
+        gate.sender("joe@a.com", HERE);
+        dueCost("an EXCHANGE as the first entry", gate, 2, 1, 0);
         gate = at(HERE, "a.com", "v=spf1 mx -all");
         gate.exchange("a.com", "m.com");
         gate.exchange("m.com", "n.com");
@@ -235,6 +246,11 @@ public final class PermissionTest {
         becomes(sender, -1, "%{i}", "255.255.255.255");
         becomes(sender, 0x000A6409, "%{i}", "0.10.100.9");
         becomes(sender, HERE, "%{s1}", "com");
+        becomes("a.b.c.d.e.f.g.h.i.j@x", HERE, "%{l9}", "b.c.d.e.f.g.h.i.j");
+        becomes("a.b.c.d.e.f.g.h.i.j@x", HERE, "%{l8r}", "h.g.f.e.d.c.b.a");
+        becomes(".o@x.a.com", HERE, "%{lr}q", "o.q");
+        becomes("o.@x.a.com", HERE, "q%{lr}", "q.o");
+        becomes("o..p@x.a.com", HERE, "%{l1}%{l1r}", "po");
         becomes(sender, HERE, "%{s1r}.q", "j.q");
         becomes(sender, HERE, "%{d}.".repeat(7) + "abcd", "x.a.com.".repeat(7) + "abcd");
         for (String host : new String[] {"%%", "%_", "a%_b", "%-", "a.%-", "%{s}", "%{l}..q", ".%{d}", "A%{d}",

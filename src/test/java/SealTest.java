@@ -166,6 +166,9 @@ public final class SealTest {
         Gate.due("NOW above x", answer(text, 101), 3);
         Gate.due("x=0 by 0", answer(SIGNER.message(BODY, FROM, seal("x=0; ")), 0), 2);
         Gate.due("x=0 by 1", answer(SIGNER.message(BODY, FROM, seal("x=0; ")), 1), 3);
+        String first = seal("").replace("v=1;", "x=3; v=1;");
+        Gate.due("x as the first TAG", answer(SIGNER.message(BODY, FROM, first), 4), 3);
+        Gate.due("x as the first TAG, in time", answer(SIGNER.message(BODY, FROM, first), 3), 2);
         Gate.due("x=007", answer(SIGNER.message(BODY, FROM, seal("x=007; ")), 8), 3);
     }
 
@@ -253,6 +256,10 @@ public final class SealTest {
         Gate.due("one more To", answer("To: 0\n" + text, 5), 2);
         Gate.due("one more Subject", answer("Subject: x\n" + text, 5), 3);
         Gate.due("one more From", answer("From: x\n" + text, 5), 3);
+        String date = SIGNER.message(BODY, FROM, "To: 1", "Cc: 2", seal("").replace("h=from", "h=from:to:xrom"));
+        Gate.due("names of the same length", answer(date, 5), 2);
+        Gate.due("another To", answer(date.replace("To: 1", "To: 3"), 5), 3);
+        Gate.due("another Cc", answer(date.replace("Cc: 2", "Cc: 3"), 5), 2);
         String own = seal("").replace("h=from", "h=from:dkim-signature");
         String both = SIGNER.message(BODY, FROM, own, "DKIM-Signature: x");
         Gate.due("another FIELD of the SEAL's name", answer(both, 5), 2);

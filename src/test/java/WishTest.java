@@ -186,6 +186,8 @@ public final class WishTest {
             String[] fields = {"From: x@a.com", "dkim-signature: x", seal("b.com", ""), seal("a.com", "")};
             gate.message(SIGNER.message("hello\n", fields));
             due("some SEAL" + texts[i], gate, 2);
+            gate.message(SIGNER.message("hello\n", seal("a.com", ""), "From: x@a.com"));
+            due("the SEAL first" + texts[i], gate, 2);
         }
         Gate gate = gate("_dmarc.a.com", "v=DMARC1; p=quarantine", "k._domainkey.a.com", "p=" + SIGNER.key());
         gate.message(SIGNER.message("hello\n", "From: x@a.com", seal("a.com", "x=10; ")));

@@ -4,14 +4,22 @@ import java.nio.charset.StandardCharsets;
 final class Gate {
     private static int asked = 0;
     private static int wrong = 0;
+    private static int sentences = 0;
+    private static String sentence = "";
 
     final PostGate gate = new PostGate();
+
+    /** The sentence of the document that the answers from here on are about. */
+    static void sentence(String words) {
+        sentences++;
+        sentence = "[" + words + "] ";
+    }
 
     static void due(String what, long got, long want) {
         asked++;
         if (got != want) {
             wrong++;
-            System.out.println(what + " answered " + got + ", due is " + want);
+            System.out.println(sentence + what + " answered " + got + ", due is " + want);
         }
     }
 
@@ -19,13 +27,14 @@ final class Gate {
         asked++;
         if (!got.equals(want)) {
             wrong++;
-            System.out.println(what + " answered '" + got + "', due is '" + want + "'");
+            System.out.println(sentence + what + " answered '" + got + "', due is '" + want + "'");
         }
     }
 
     /** The last line of a test's main method. */
     static void finish(String test) {
-        System.out.println(test + ": " + asked + " answers, " + wrong + " not as due");
+        String about = sentences == 0 ? "" : " to " + sentences + " sentences";
+        System.out.println(test + ": " + asked + " answers" + about + ", " + wrong + " not as due");
         if (wrong != 0) {
             System.exit(1);
         }

@@ -11,6 +11,7 @@ public final class CountEdgesTest {
         countedWithin();
         notCounted();
         tenLevels();
+        eachCheckBeginsAnew();
         twoAreVoid();
         threeAreBroken();
         voidAtOnce();
@@ -23,7 +24,10 @@ public final class CountEdgesTest {
         addressOfMany();
         becomesANameOf60();
         lastParts();
+        addressAsNumbers();
+        whatIsChecked();
         noNameHasNoEntries();
+        signsOfMacros();
         Gate.finish("CountEdgesTest");
     }
 
@@ -138,6 +142,24 @@ public final class CountEdgesTest {
         }
     }
 
+    private static void eachCheckBeginsAnew() {
+        Gate.sentence("PERMISSION: CHECK of the SENDER's DOMAIN (whatever the one before was)");
+        String[] texts = {"v=spf1 a/33", "v=spf1 all", "v=spf1 ip4:1.1.1.1/0", "v=spf1 -all", "v=spf1 x", "v=spf1 ?all",
+            "v=spf1" + OTHER.repeat(11), "v=spf1 a:here.com", "v=spf1 a:here.com/99", "v=spf1 exists:here.com",
+            "v=spf1 a mx a:none.com", "v=spf1 a mx ~all", "v=spf1 redirect=fail.com", "v=spf1", "v=spf1 a:other.com/8"};
+        int[] answers = {6, 2, 2, 3, 6, 1, 6, 2, 6, 2, 6, 4, 3, 1, 2};
+        for (int i = 0; i < texts.length; i++) {
+            for (int k = 0; k < texts.length; k++) {
+                Gate gate = gate("x");
+                gate.text("a.com", texts[i]);
+                gate.text("b.com", texts[k]);
+                Gate.due(texts[i], gate.gate.permission(), answers[i]);
+                gate.sender("joe@b.com", HERE);
+                Gate.due(texts[k] + " behind " + texts[i], gate.gate.permission(), answers[k]);
+            }
+        }
+    }
+
     private static final String[] VOIDS = {" a:none.com", " exists:none.com", " mx:none.com"};
 
     private static void twoAreVoid() {
@@ -224,6 +246,8 @@ public final class CountEdgesTest {
             Gate.due((char) c + "ip4:192.0.2.2 all", gate("v=spf1 " + (char) c + "ip4:192.0.2.2 all").gate.permission(),
                     sign ? 2 : 6);
         }
+        Gate.due("a TERM that is none behind all", gate("v=spf1 all x").gate.permission(), 6);
+        Gate.due("a SIGN alone behind all", gate("v=spf1 all -").gate.permission(), 6);
         Gate.due("two SIGNS", gate("v=spf1 --all").gate.permission(), 6);
         Gate.due("a SIGN alone", gate("v=spf1 - all").gate.permission(), 6);
     }
@@ -296,6 +320,14 @@ public final class CountEdgesTest {
             gate.sender("joe@a.com", HERE + 9);
             due("no ADDRESS", gate, 3, 2, 0);
         }
+        for (int sort = 1; sort <= 2; sort++) {
+            Gate gate = new Gate();
+            gate.sender("joe@a.com", HERE);
+            gate.tape(sort == 1 ? "b.com" : "b.com c.com").gate.entry(sort, HERE);
+            gate.text("a.com", "v=spf1 a:b.com mx:b.com -all");
+            gate.address("c.com", HERE);
+            due("an entry of sort " + sort + " as the first of all", gate, 2, sort, sort - 1);
+        }
     }
 
     /** Whether exists finds the NAME that the D becomes. */
@@ -344,9 +376,65 @@ public final class CountEdgesTest {
                 dueName(local + "@x.com", "%{l" + n + "r}", turned.substring(from));
             }
         }
+        dueName(".o@x.com", "%{lr}q", "o.q");
+        dueName("o.@x.com", "q%{lr}", "q.o");
+        dueName("o.@x.com", "q%{l}o", "qo.o");
+        dueName("..@x.com", "q%{l}q", "q..q");
+        dueName("..@x.com", "q%{l2}q", "q.q");
+        dueName("o..p@x.com", "%{l1}%{l1r}", "po");
+        dueName("x".repeat(30) + "@" + Names.LONGEST, "%{s1}", Names.LONGEST.substring(42));
+        dueName("x".repeat(30) + "@" + Names.LONGEST, "%{s2}", Names.LONGEST.substring(21));
+        dueName("a.b@c.d", "%{s1r}.%{s1}", "a.d");
         dueName("joe@a.com", "%{i4}", "192.0.2.1");
         dueName("joe@a.com", "%{i3}", "0.2.1");
         dueName("joe@a.com", "%{i5r}", "1.2.0.192");
+    }
+
+    private static void addressAsNumbers() {
+        Gate.sentence("i the address, four numbers with . between");
+        for (int number : new int[] {0, 1, 9, 10, 11, 19, 20, 90, 99, 100, 101, 109, 110, 127, 128, 199, 200, 255}) {
+            for (int shift = 0; shift <= 24; shift += 8) {
+                int address = 0x05050505 & ~(255 << shift) | number << shift;
+                String name = (address >>> 24) + "." + (address >>> 16 & 255) + "." + (address >>> 8 & 255) + "."
+                        + (address & 255);
+                Gate gate = new Gate();
+                gate.text("a.com", "v=spf1 exists:%{i} -all");
+                gate.address(name, 1);
+                gate.sender("joe@a.com", address);
+                Gate.due(name, gate.gate.permission(), 2);
+                gate.sender("joe@a.com", address ^ 1);
+                Gate.due(name + " is another SENDER's", gate.gate.permission(), 3);
+                gate.sender("joe@a.com", address);
+                Gate.due(name + " again", gate.gate.permission(), 2);
+            }
+        }
+        dueAddress(-1, "255.255.255.255");
+        dueAddress(0, "0.0.0.0");
+        dueAddress(Integer.MIN_VALUE, "128.0.0.0");
+        dueAddress(Integer.MAX_VALUE, "127.255.255.255");
+    }
+
+    private static void dueAddress(int address, String name) {
+        Gate gate = new Gate();
+        gate.sender("joe@a.com", address);
+        gate.text("a.com", "v=spf1 exists:%{i} -all");
+        gate.address(name, 1);
+        Gate.due(name, gate.gate.permission(), 2);
+    }
+
+    private static void whatIsChecked() {
+        Gate.sentence("s LOCAL, @ and DOMAIN; l LOCAL; o DOMAIN; d the NAME that is checked");
+        for (String letter : new String[] {"o", "d", "s1", "l"}) {
+            Gate gate = new Gate();
+            gate.sender("joe@x.org", HERE);
+            gate.text("x.org", "v=spf1 include:y.net -all");
+            gate.text("y.net", "v=spf1 exists:q.%{" + letter + "}");
+            String[] names = {"q.x.org", "q.y.net", "q.org", "q.joe"};
+            for (int i = 0; i < names.length; i++) {
+                gate.address(names[i], 1);
+                Gate.due(letter + " with " + names[i], gate.gate.permission(), "odsl".indexOf(letter.charAt(0)) <= i ? 2 : 3);
+            }
+        }
     }
 
     private static void noNameHasNoEntries() {
@@ -360,6 +448,20 @@ public final class CountEdgesTest {
                 due("v=spf1 a:" + host + " ~all", 4, 1, 1);
                 due("v=spf1 mx:" + host + " ~all", 4, 1, 1);
             }
+        }
+    }
+
+    private static void signsOfMacros() {
+        Gate.sentence("MACRO %% is %, %_ a blank, %- the signs %20 (none of which a NAME has)");
+        String[] names = {"ab.com", "a-b.com", "a_b.com", "a20b.com", "a.b.com", "a", "b.com"};
+        for (String macro : new String[] {"%%", "%_", "%-"}) {
+            Gate gate = new Gate();
+            gate.sender("joe@a.com", HERE);
+            gate.text("a.com", "v=spf1 exists:a" + macro + "b.com ~all");
+            for (String name : names) {
+                gate.address(name, HERE);
+            }
+            due("a" + macro + "b.com", gate, 4, 1, 1);
         }
     }
 }

@@ -164,6 +164,22 @@ public final class DirectoryEdgesTest {
         Gate.due("entry 40 is there", gate.gate.permission(), 2);
         gate.sender("x@a.com", 78);
         Gate.due("entry 41 is not", gate.gate.permission(), 3);
+        gate = filled(39);
+        Gate.due("a TEXT as entry 40", gate.text("a.com", "v=spf1 mx:b.com -all"), 40);
+        gate.sender("x@a.com", 39);
+        Gate.due("it is there", gate.gate.permission(), 3);
+        gate = filled(38);
+        gate.text("a.com", "v=spf1 mx:b.com -all");
+        Gate.due("an EXCHANGE as entry 40", gate.exchange("b.com", "a.com"), 40);
+        gate.sender("x@a.com", 38);
+        Gate.due("it is there", gate.gate.permission(), 2);
+        gate = filled(39);
+        Gate.due("a SUFFIX as entry 40", gate.suffix("b.com"), 40);
+        Gate.due("it is there", gate.house("d.c.b.com"), "c.b.com");
+        gate = filled(39);
+        gate.sender("x@a.com", 1);
+        Gate.due("a TROUBLE as entry 40", gate.trouble("a.com"), 40);
+        Gate.due("it is there", gate.gate.permission(), 5);
     }
 
     private static void fullIsFirst() {
@@ -220,9 +236,45 @@ public final class DirectoryEdgesTest {
             Gate.due("entry " + i + " afterwards", gate.suffix("com"), i);
         }
         Gate.due("entry 41 afterwards", gate.suffix("com"), -3);
+        goneAfterForget();
         gate.tape("left");
         gate.gate.forget();
         Gate.due("the TAPE stays", gate.gate.end(4), 4);
+    }
+
+    /** What each sort of entry was looked up for before, and is not found again. */
+    private static void goneAfterForget() {
+        Gate gate = new Gate();
+        gate.sender("x@a.com", 7);
+        gate.text("a.com", "v=spf1 all");
+        Gate.due("a TEXT", gate.gate.permission(), 2);
+        gate.gate.forget();
+        Gate.due("a TEXT gone", gate.gate.permission(), 0);
+        gate.address("b.com", 7);
+        gate.text("a.com", "v=spf1 a:b.com -all");
+        Gate.due("an ADDRESS", gate.gate.permission(), 2);
+        gate.gate.forget();
+        gate.text("a.com", "v=spf1 a:b.com -all");
+        Gate.due("an ADDRESS gone", gate.gate.permission(), 3);
+        gate.gate.forget();
+        gate.text("a.com", "v=spf1 mx -all");
+        gate.address("m.com", 7);
+        gate.exchange("a.com", "n.com");
+        gate.exchange("a.com", "m.com");
+        Gate.due("an EXCHANGE", gate.gate.permission(), 2);
+        gate.gate.forget();
+        gate.text("a.com", "v=spf1 mx -all");
+        gate.address("m.com", 7);
+        gate.exchange("a.com", "n.com");
+        Gate.due("an EXCHANGE gone", gate.gate.permission(), 3);
+        gate.trouble("a.com");
+        Gate.due("a TROUBLE", gate.gate.permission(), 5);
+        gate.gate.forget();
+        Gate.due("a TROUBLE gone", gate.gate.permission(), 0);
+        gate.suffix("b.com");
+        Gate.due("a SUFFIX", gate.house("d.c.b.com"), "c.b.com");
+        gate.gate.forget();
+        Gate.due("a SUFFIX gone", gate.house("d.c.b.com"), "b.com");
     }
 
     private static void houseOfNames() {
@@ -295,7 +347,9 @@ public final class DirectoryEdgesTest {
         Gate.due("it ends with it without .", gate.house("d.cb.a"), "cb.a");
         Gate.due("it ends with - and it", gate.house("d.c-b.a"), "c-b.a");
         Gate.due("it begins with it", gate.house("b.a.c"), "a.c");
-        Gate.due("its end is cut", gate.house("d.c.a"), "c.a");
+        Gate.due("its beginning is other", gate.house("d.e.a"), "e.a");
+        Gate.due("its end is other", gate.house("e.d.b.c"), "b.c");
+        Gate.due("its end is longer", gate.house("e.d.b.aa"), "b.aa");
         gate.suffix(Names.LONGEST.substring(1));
         Gate.due("one byte longer, without .", gate.house(Names.LONGEST), Names.LONGEST.substring(21));
         gate.suffix(Names.LONGEST.substring(21));

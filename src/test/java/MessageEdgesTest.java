@@ -99,6 +99,8 @@ public final class MessageEdgesTest {
         }
         Gate.due("the first line", message(" a: x"), -1);
         Gate.due("the first line, byte 9", message("\ta: x"), -1);
+        Gate.due("the first line before a FIELD", message(" x\na: y"), -1);
+        Gate.due("the first line before the empty one", message(" x\n\na: y"), -1);
         Gate.due("a line of one blank", message("a: x\n \nb: y\n"), 2);
         Gate.due("the last line, a blank without byte 10", message("a: x\n "), 1);
         Gate.due("a line of WHITE behind the empty line", message("a: x\n\n \n"), 1);

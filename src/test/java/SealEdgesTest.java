@@ -39,6 +39,9 @@ public final class SealEdgesTest {
         tagsOfTheKey();
         lengthOfBody();
         notTaken();
+        namesOfFields();
+        tagsInAnyOrder();
+        eachSealBeginsAnew();
         valueOfBLeftOut();
         remainder();
         longest();
@@ -136,6 +139,8 @@ public final class SealEdgesTest {
         dueWell("one at the beginning", RIGHT.replace("v=1", ";v=1"), false);
         dueWell("two between", RIGHT.replace("s=k;", "s=k;;"), false);
         dueWell("none between", RIGHT.replace("s=k;", "s=k"), false);
+        duePass("without WHITE", RIGHT.replace(" ", ""));
+        duePass("without WHITE, relaxed", RIGHT.replace("v=1;", "v=1;c=relaxed;").replace(" ", ""));
         dueWell("nothing", "DKIM-Signature:", false);
         dueWell("; alone", "DKIM-Signature: ;", false);
     }
@@ -356,6 +361,19 @@ public final class SealEdgesTest {
         gate.trouble("domainkey.a.com");
         gate.trouble("a.com");
         Gate.due("TROUBLE of others", gate.gate.sealed(0, 5), 2);
+        gate.gate.forget();
+        Gate.due("one that was forgotten", gate.gate.sealed(0, 5), 6);
+        for (int i = 0; i < 39; i++) {
+            gate.text("a.com", right);
+        }
+        Gate.due("none among 39", gate.gate.sealed(0, 5), 6);
+        gate.text("k._domainkey.a.com", right);
+        Gate.due("as entry 40", gate.gate.sealed(0, 5), 2);
+        gate.gate.forget();
+        for (int i = 0; i < 40; i++) {
+            gate.text("a.com", right);
+        }
+        Gate.due("none among 40", gate.gate.sealed(0, 5), 6);
     }
 
     private static String key(int size) {
@@ -432,6 +450,11 @@ public final class SealEdgesTest {
                         l <= 5 ? 2 : 3);
             }
         }
+        for (String over : new String[] {"\0", "\u00ff", "\n", "h", "!"}) {
+            String sum = Base64.getEncoder().encodeToString(Model.sum(BODY + over));
+            String field = RIGHT.replace("v=1;", "v=1; l=7;").replace(SUM, sum);
+            Gate.due("a byte that is not there", sealed(SIGNER.message(BODY, FROM, field), 5), 3);
+        }
         String sum = Base64.getEncoder().encodeToString(Model.sum(""));
         String field = RIGHT.replace("v=1;", "v=1; c=simple/relaxed; l=0;").replace(SUM, sum);
         Gate.due("l=0 of an empty BODY", sealed(SIGNER.message("", FROM, field), 5), 2);
@@ -453,15 +476,108 @@ public final class SealEdgesTest {
         }
     }
 
+    private static void namesOfFields() {
+        Gate.sentence("SEALED: the FIELDS of h, with the name (alike if they are with small letters)");
+        String field = RIGHT.replace("h=from", "h=from:to");
+        for (String name : new String[] {"To", "TO", "tO"}) {
+            String text = SIGNER.message(BODY, FROM, name + ": 1", field);
+            Gate.due(name, sealed(text, 5), 2);
+            Gate.due(name + " other", sealed(text.replace(name + ": 1", name + ": 2"), 5), 3);
+        }
+        for (String name : new String[] {"T", "Too", "Tp", "Uo", "xTo", "T-"}) {
+            String text = SIGNER.message(BODY, FROM, name + ": 1", field);
+            Gate.due(name, sealed(text, 5), 2);
+            Gate.due(name + " other", sealed(text.replace(name + ": 1", name + ": 2"), 5), 2);
+        }
+    }
+
+    private static void tagsInAnyOrder() {
+        Gate.sentence("A SEAL: TAGS, each by its letters, wherever it stands");
+        String[] tags = {"v=1", "a=rsa-sha256", "d=a.com", "s=k", "h=from", "c=relaxed/simple", "l=6", "x=7", "z=1",
+            "bh=" + SUM, "b=B!"};
+        for (int first = 0; first < tags.length; first++) {
+            StringBuilder field = new StringBuilder("DKIM-Signature: ");
+            for (int i = 0; i < tags.length; i++) {
+                field.append(i == 0 ? "" : "; ").append(tags[(first + i) % tags.length]);
+            }
+            String text = SIGNER.message(BODY, FROM, field.toString());
+            Gate.due(tags[first] + " first", sealed(text, 7), 2);
+            Gate.due(tags[first] + " first, above x", sealed(text, 8), 3);
+            Gate.due(tags[first] + " first, relaxed", sealed(text.replace("From: ", "FROM:  "), 7), 2);
+            Gate.due(tags[first] + " first, more than l", sealed(text + "more\n", 7), 2);
+        }
+        for (int i = 0; i < tags.length; i++) {
+            String key = "p=" + SIGNER.key();
+            String[] keys = {"v=DKIM1", "k=rsa", key, "n=1"};
+            String turned = keys[i % 4] + ";" + keys[(i + 1) % 4] + ";" + keys[(i + 2) % 4] + ";" + keys[(i + 3) % 4];
+            Gate.due(turned, sealed(SIGNER.message(BODY, FROM, RIGHT), 5, turned), 2);
+            Gate.due("v other", sealed(SIGNER.message(BODY, FROM, RIGHT), 5, turned.replace("DKIM1", "x")), 6);
+            Gate.due("k other", sealed(SIGNER.message(BODY, FROM, RIGHT), 5, turned.replace("rsa", "x")), 6);
+        }
+    }
+
+    private static void eachSealBeginsAnew() {
+        Gate.sentence("SEALED, of SEAL k (whatever the one before was)");
+        String blanks = "x  y \n";
+        String[] plains = {"", "c=relaxed;", "c=simple/relaxed;", "c=relaxed/relaxed;", "l=1;", "x=9;", "c=z;"};
+        for (String one : plains) {
+            for (String other : plains) {
+                Gate gate = new Gate();
+                gate.text("k._domainkey.a.com", "p=" + SIGNER.key());
+                for (String plain : new String[] {one, other}) {
+                    String sum = Signer.bodySum(blanks, plain.endsWith("/relaxed;"), plain.equals("l=1;") ? 1 : -1);
+                    String field = RIGHT.replace("v=1;", "v=1;" + plain).replace(SUM, sum);
+                    String text = SIGNER.message(blanks, FROM, field);
+                    gate.message(text);
+                    boolean well = !plain.equals("c=z;");
+                    Gate.due(plain + " of " + one + " and " + other, gate.gate.sealed(0, 9), well ? 2 : 1);
+                    gate.message(text.replace("From: ", "From:  "));
+                    int changed = plain.startsWith("c=relaxed") ? 2 : 3;
+                    Gate.due(plain + " with a blank more", gate.gate.sealed(0, 9), well ? changed : 1);
+                }
+            }
+        }
+        for (long key = 200; key < 206; key++) {
+            dueOneByOne(new Signer(key));
+        }
+        // What is over in one power spoils the next only if p is near its greatest value.
+        int great = 0;
+        for (long key = 300; great < 6; key++) {
+            Signer signer = new Signer(key);
+            if (signer.modulus.testBit(510)) {
+                dueOneByOne(signer);
+                great++;
+            }
+        }
+    }
+
+    private static void dueOneByOne(Signer signer) {
+        Gate gate = new Gate();
+        gate.text("k._domainkey.a.com", "p=" + signer.key());
+        for (int i = 0; i < 8; i++) {
+            String text = signer.message(BODY, FROM, RIGHT.replace("v=1;", "v=1; i=" + i + ";"));
+            String b = text.substring(text.lastIndexOf(" b=") + 3, text.indexOf("\n\n"));
+            for (String other : new String[] {"A" + b.substring(1), "/" + b.substring(1), "/////" + b.substring(5)}) {
+                gate.message(text.replace(b, other));
+                Gate.due("MESSAGE " + i + ", another b", gate.gate.sealed(0, 9), other.equals(b) ? 2 : 3);
+                gate.message(text);
+                Gate.due("MESSAGE " + i, gate.gate.sealed(0, 9), 2);
+            }
+            gate.message(text.replace("i=" + i, "i=" + (i + 1)));
+            Gate.due("MESSAGE " + i + ", changed", gate.gate.sealed(0, 9), 3);
+        }
+    }
+
     private static void valueOfBLeftOut() {
         Gate.sentence("SEALED: with all that is b's value left out (from behind b= to before ; or the end)");
         for (String plain : new String[] {"simple", "relaxed"}) {
             String head = RIGHT.replace("v=1;", "v=1; c=" + plain + ";").replace("b=B!", "");
             for (String end : new String[] {"b=B!", "b=B! ", "b= B!", "b=B!;", "b=B! ;", "b=B!; z=1", "b\t=\n B!\n ;\n z=1",
-                "bb=2; b=B!; ab=3", "z=b=1; b=B!"}) {
+                "bb=2; b=B!; ab=3", "z=b=1; b=B!", "z=1;\n b\n =B!", "z=1;b=B!", "z=1;b=B!;y=2", "\n b=B!;y=2"}) {
                 duePass(plain + " with " + end, head + end);
             }
         }
+        duePass("b first, without WHITE", RIGHT.replace(" v=1;", "b=B!;v=1;").replace("; b=B!", ""));
         duePass("b first", RIGHT.replace("v=1;", "b=B!;v=1;").replace("; b=B!", ""));
         duePass("b first, behind WHITE", RIGHT.replace("v=1;", "\tb=B! ; v=1;").replace("; b=B!", ""));
     }

@@ -122,6 +122,7 @@ public final class WishEdgesTest {
         Gate.due("nothing at all", wishFrom(""), 1);
         Gate.due("as the first byte", wishFrom("@a.com"), 9);
         Gate.due("as the last byte", wishFrom("x@"), 1);
+        Gate.due("as the last byte, behind a domain", wishFrom("x@a.com>@"), 1);
         Gate.due("in the second line", wishFrom("x@b.com\n y@a.com"), 9);
         Gate.due("of the next FIELD", wishFrom("x\nTo: x@a.com"), 1);
     }
@@ -401,6 +402,10 @@ public final class WishEdgesTest {
         due("one PASS, the other ALIGNED", gate, 9);
         gate.message(SIGNER.message(BODY, "From: x@a.com", seal("b.com", ""), seal("a.com", "")));
         due("the second both", gate, 2);
+        gate.message(SIGNER.message(BODY, seal("a.com", ""), "From: x@a.com"));
+        due("as the first FIELD", gate, 2);
+        gate.message(SIGNER.message(BODY, "From: x@a.com"));
+        due("none", gate, 9);
     }
 
     private static void sealInTime() {

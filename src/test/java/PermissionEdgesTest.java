@@ -15,6 +15,7 @@ public final class PermissionEdgesTest {
         beginsWithABlank();
         noneOneTwoTexts();
         blanksBetween();
+        lettersSmall();
         redirectOnce();
         bitsOfTwoDigits();
         quads();
@@ -184,6 +185,25 @@ public final class PermissionEdgesTest {
         for (int c = 0; c < 256; c++) {
             // Between these two only a blank parts; every other byte makes a TERM that is none.
             Gate.due("byte " + c + " between", permission("v=spf1 ip4:1.1.1.1" + (char) c + "-all"), c == 32 ? 3 : 6);
+        }
+    }
+
+    private static void lettersSmall() {
+        Gate.sentence("TERMS; one that is none of these: BROKEN; letters small");
+        for (String term : new String[] {"all", "include:b.com", "a", "a:b.com", "mx", "mx:b.com", "ip4:1.2.3.4",
+            "exists:b.com", "redirect=b.com", "exp=b.com"}) {
+            dueTerm(term, true);
+            dueTerm(Character.toUpperCase(term.charAt(0)) + term.substring(1), false);
+            boolean plain = term.indexOf(':') < 0 && term.indexOf('=') < 0;
+            dueTerm("?" + term, term.indexOf('=') < 0);
+            dueTerm(term + "!", !plain && !term.startsWith("ip4"));
+            dueTerm("!" + term, false);
+            dueTerm(term + ":", !plain && !term.startsWith("ip4"));
+            dueTerm("x" + term, term.indexOf('=') >= 0);
+        }
+        for (String term : new String[] {"ALL", "MX", "IP4:1.2.3.4", "al", "alll", "m", "mxx", "aa", "ip4", "ip4:", "ip6:::1",
+            "ip5:1.2.3.4", "include", "exists", "redirect", "ptr", "?", "?+all", "all:b.com", "all/8", "include/8"}) {
+            dueTerm(term, false);
         }
     }
 

@@ -21,6 +21,7 @@ public final class SealEdgesTest {
         semicolonAtTheEnd();
         lettersOfTags();
         sameLetters();
+        versionAndWay();
         names();
         sumOf32Bytes();
         signatureOf64Bytes();
@@ -44,6 +45,7 @@ public final class SealEdgesTest {
         eachSealBeginsAnew();
         valueOfBLeftOut();
         remainder();
+        everyByteOfThePower();
         longest();
         Gate.finish("SealEdgesTest");
     }
@@ -173,6 +175,19 @@ public final class SealEdgesTest {
         dueWell("the first and the last", RIGHT + ";v=1", false);
         dueWell("8 the same", RIGHT + ";abcdefgh=1;abcdefgh=1", false);
         dueWell("7 of 8 the same", RIGHT + ";abcdefgh=1;abcdefgi=1", true);
+    }
+
+    private static void versionAndWay() {
+        Gate.sentence("WELL: v is 1, a is rsa-sha256");
+        duePass("both", RIGHT);
+        for (String v : new String[] {"", "0", "2", "11", "01", "1.0", "1,"}) {
+            dueWell("v=" + v, RIGHT.replace("v=1", "v=" + v), false);
+        }
+        for (String a : new String[] {"", "rsa-sha25", "rsa-sha2566", "rsa-sha1", "RSA-SHA256", "xrsa-sha256", "ed25519-sha256"}) {
+            dueWell("a=" + a, RIGHT.replace("rsa-sha256", a), false);
+        }
+        dueWell("no v", RIGHT.replace("v=1; ", ""), false);
+        dueWell("no a", RIGHT.replace("a=rsa-sha256; ", ""), false);
     }
 
     private static void names() {
@@ -600,6 +615,25 @@ public final class SealEdgesTest {
             String sealed = signer.message(BODY, FROM, RIGHT);
             Gate.due("key " + key, sealed(sealed, 5, "p=" + signer.key()), 2);
         }
+    }
+
+    private static void everyByteOfThePower() {
+        Gate.sentence("SEALED: is: byte 0, 1, 10 times 255, 0, the bytes 48 to 32, g. Then PASS 2, else FAIL");
+        String text = SIGNER.message(BODY, FROM, RIGHT);
+        String b = text.substring(text.lastIndexOf(" b=") + 3, text.indexOf("\n\n"));
+        BigInteger number = new BigInteger(1, Base64.getDecoder().decode(b));
+        BigInteger power = number.modPow(BigInteger.valueOf(65537), SIGNER.modulus);
+        Gate.due("the power itself", sealed(text.replace(b, SIGNER.sign(power)), 5), 2);
+        for (int bit = 0; bit < 512; bit++) {
+            BigInteger other = power.flipBit(bit);
+            if (other.compareTo(SIGNER.modulus) < 0) {
+                Gate.due("bit " + bit + " other", sealed(text.replace(b, SIGNER.sign(other)), 5), 3);
+            }
+        }
+        byte[] bytes = power.toByteArray();
+        byte[] sum = Arrays.copyOfRange(bytes, bytes.length - 32, bytes.length);
+        Gate.due("g alone", sealed(text.replace(b, SIGNER.sign(new BigInteger(1, sum))), 5), 3);
+        Gate.due("all but the first bytes", sealed(text.replace(b, SIGNER.sign(power.clearBit(496))), 5), 3);
     }
 
     private static void longest() {

@@ -41,6 +41,11 @@ final class Signer {
         return packed(modulus);
     }
 
+    /** The value of b whose 65537th power is the number. */
+    String sign(BigInteger number) {
+        return packed(number.modPow(secret, modulus));
+    }
+
     static String bodySum(String body, boolean relaxed, int length) {
         String plain = Model.plain(body, relaxed);
         String counted = length < 0 || length > plain.length() ? plain : plain.substring(0, length);
@@ -55,8 +60,7 @@ final class Signer {
         Map<String, String> tags = Model.tags(field.substring(field.indexOf(':') + 1));
         boolean relaxed = tags.getOrDefault("c", "simple").startsWith("relaxed");
         byte[] sum = Model.sum(Model.signedText(fields, field, tags, relaxed));
-        BigInteger number = new BigInteger(1, Model.padded(sum)).modPow(secret, modulus);
-        return field.replace("B!", packed(number));
+        return field.replace("B!", sign(new BigInteger(1, Model.padded(sum))));
     }
 
     /** A message of the FIELDS, the one with B! in it sealed, and the body. */

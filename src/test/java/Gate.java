@@ -15,6 +15,11 @@ final class Gate {
         sentence = "[" + words + "] ";
     }
 
+    /** How many answers have been looked at. */
+    static int asked() {
+        return asked;
+    }
+
     static void due(String what, long got, long want) {
         asked++;
         if (got != want) {

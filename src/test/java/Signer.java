@@ -1,4 +1,9 @@
 import java.math.BigInteger;
+import java.nio.charset.StandardCharsets;
+import java.security.GeneralSecurityException;
+import java.security.KeyFactory;
+import java.security.Signature;
+import java.security.spec.RSAPrivateKeySpec;
 import java.util.ArrayList;
 import java.util.Arrays;
 import java.util.Base64;
@@ -44,6 +49,18 @@ final class Signer {
     /** The value of b whose 65537th power is the number. */
     String sign(BigInteger number) {
         return packed(number.modPow(secret, modulus));
+    }
+
+    /** The value of b for the text, made by the Java library alone. */
+    String signed(String text) {
+        try {
+            Signature signature = Signature.getInstance("SHA256withRSA");
+            signature.initSign(KeyFactory.getInstance("RSA").generatePrivate(new RSAPrivateKeySpec(modulus, secret)));
+            signature.update(text.getBytes(StandardCharsets.ISO_8859_1));
+            return Base64.getEncoder().encodeToString(signature.sign());
+        } catch (GeneralSecurityException e) {
+            throw new IllegalStateException(e);
+        }
     }
 
     static String bodySum(String body, boolean relaxed, int length) {

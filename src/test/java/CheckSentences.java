@@ -189,7 +189,7 @@ final class CheckSentences {
         Document.says("D is what becomes of it: MACRO %% is %, %_ a blank, %- the signs %20;");
         dueName("b.com", "b.com", true);
         for (String macro : new String[] {"%%", "%_", "%-"}) {
-            for (String name : new String[] {"bb", "b20b", "b-b", "b_b", "b.b", "b"}) {
+            for (String name : new String[] {"bb", "b20b", "b-b", "b_b", "b.b", "b", "bc.comb", "ba.comb", "bx.yb"}) {
                 dueName("b" + macro + "b", name, false);
             }
         }
@@ -209,14 +209,15 @@ final class CheckSentences {
         dueName("%{s1}", "com", true);
         dueName("%{s1r}", "x", true);
         dueName("%{l}.%{o}.%{d}.%{i}", "x.y.a.com.c.com.192.0.2.1", true);
-        int[] addresses = {0, -1, Integer.MIN_VALUE, 0x01020304, 0x0A63C8FF};
-        String[] names = {"0.0.0.0", "255.255.255.255", "128.0.0.0", "1.2.3.4", "10.99.200.255"};
-        for (int i = 0; i < addresses.length; i++) {
-            Gate gate = new Gate();
+        Gate gate = new Gate();
+        for (int i = 0; i < 256; i++) {
+            int address = i << 24 | (255 - i) << 16 | (i * 7 & 255) << 8 | i;
+            String name = i + "." + (255 - i) + "." + (i * 7 & 255) + "." + i;
+            gate.gate.forget();
             gate.text("a.com", "v=spf1 exists:%{i} -all");
-            gate.address(names[i], 1);
-            gate.sender("x@a.com", addresses[i]);
-            Gate.due("%{i} as " + names[i], gate.gate.permission(), 2);
+            gate.address(name, 1);
+            gate.sender("x@a.com", address);
+            Gate.due("%{i} as " + name, gate.gate.permission(), 2);
         }
     }
 
@@ -236,6 +237,18 @@ final class CheckSentences {
         dueName("%{i4r}", "1.2.0.192", true);
         dueName("%{i9r}", "1.2.0.192", true);
         dueName("%{lr}.%{d1}.%{o1r}", "y.x.com.a", true);
+        String eleven = "k.j.i.h.g.f.e.d.c.b.a";
+        for (int n = 1; n <= 9; n++) {
+            for (String turned : new String[] {"", "r"}) {
+                Gate gate = new Gate();
+                gate.text(eleven, "v=spf1 exists:%{d" + n + turned + "} -all");
+                gate.address(turned.isEmpty()
+                        ? eleven.substring(22 - 2 * n) : "c.d.e.f.g.h.i.j.k".substring(18 - 2 * n),
+                        1);
+                gate.sender("x@" + eleven, 1);
+                Gate.due("the last " + n + " of eleven parts " + turned, gate.gate.permission(), 2);
+            }
+        }
         Gate gate = new Gate();
         gate.text("a.com", "v=spf1 exists:%{l2} -all");
         gate.address("b.c", 1);

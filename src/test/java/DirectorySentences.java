@@ -42,6 +42,42 @@ final class DirectorySentences {
         Gate.due("the exchange with TROUBLE first", gate.gate.permission(), 5);
         Gate.due("the key first", Letter.answer(Letter.sealed(""), Letter.KEY, "x"), 2);
         Gate.due("the key behind", Letter.answer(Letter.sealed(""), "x", Letter.KEY), 6);
+        firstAndLast();
+    }
+
+    /** What is asked for is the first entry of all, or the fortieth. */
+    private static void firstAndLast() {
+        for (int before : new int[] {0, 37}) {
+            Gate gate = new Gate();
+            fill(gate, before);
+            gate.address("a.com", 7);
+            gate.exchange("b.com", "a.com");
+            gate.text("c.com", "v=spf1 a:a.com/32 -all");
+            Gate.due("how many", gate.text("d.com", "v=spf1 mx:b.com -all"), before == 37 ? -3 : 4);
+            gate.sender("x@c.com", 7);
+            Gate.due("an ADDRESS behind " + before, gate.gate.permission(), 2);
+            gate = new Gate();
+            fill(gate, before);
+            gate.exchange("b.com", "a.com");
+            gate.address("a.com", 7);
+            gate.text("c.com", "v=spf1 mx:b.com -all");
+            gate.sender("x@c.com", 7);
+            Gate.due("an EXCHANGE behind " + before, gate.gate.permission(), 2);
+            gate = new Gate();
+            fill(gate, before);
+            gate.trouble("a.com");
+            gate.suffix("c.b");
+            gate.text("c.com", "v=spf1 a:a.com -all");
+            gate.sender("x@c.com", 7);
+            Gate.due("TROUBLE behind " + before, gate.gate.permission(), 5);
+            Gate.due("a SUFFIX behind " + before, gate.house("e.d.c.b"), "d.c.b");
+        }
+    }
+
+    private static void fill(Gate gate, int count) {
+        for (int i = 0; i < count; i++) {
+            gate.address("n" + i, i);
+        }
     }
 
     private static void texts() {

@@ -30,7 +30,8 @@ final class MessageSentences {
         }
         due("a: x\n\n" + all, 1, all + "\n");
         for (String wrong : new String[] {"", "\n", "\n\nb", "\na: x\n\nb", "b", "a: x\nb\n\nc", "a: x\nb",
-            "a: x\n:", " a: x"}) {
+            "a: x\n:", " a: x",
+            " a: x\nb: y", "\t\na: x"}) {
             Gate.due("no MESSAGE: '" + wrong + "'", new Gate().message(wrong), -1);
         }
     }

@@ -148,6 +148,53 @@ final class PromiseSentences {
         gate.text("a.com", "v=spf1 mx:mail.com ~all");
         gate.address("here.com", World.HERE);
         Gate.due("no EXCHANGE", gate.gate.permission(), 4);
+        forgotten();
+    }
+
+    /** Where fewer entries are there anew than have gone, the next one of those is not found. */
+    private static void forgotten() {
+        Gate gate = new Gate();
+        gate.text("q", "");
+        gate.address("here.com", 7);
+        gate.gate.forget();
+        gate.text("a.com", "v=spf1 exists:here.com -all");
+        gate.sender("x@a.com", 7);
+        Gate.due("exists", gate.gate.permission(), 3);
+        gate.gate.forget();
+        gate.text("q", "");
+        gate.text("q", "");
+        gate.address("here.com", 7);
+        gate.gate.forget();
+        gate.text("a.com", "v=spf1 a:here.com -all");
+        gate.address("here.com", 6);
+        Gate.due("another address of here.com", gate.gate.permission(), 3);
+        gate.gate.forget();
+        gate.text("q", "");
+        gate.address("q", 1);
+        gate.address("q", 1);
+        gate.exchange("mail.com", "here.com");
+        gate.gate.forget();
+        gate.text("a.com", "v=spf1 mx:mail.com -all");
+        gate.address("here.com", 7);
+        gate.exchange("mail.com", "q");
+        Gate.due("another exchange of mail.com", gate.gate.permission(), 3);
+        gate.gate.forget();
+        gate.text("q", "");
+        gate.text("a.com", "v=spf1 all");
+        gate.gate.forget();
+        gate.text("a.com", "v=spf1 -all");
+        Gate.due("one TEXT of a.com", gate.gate.permission(), 3);
+        gate.gate.forget();
+        gate.message(Letter.sealed(""));
+        gate.text("q", "");
+        gate.text(Letter.KEY_NAME, Letter.KEY);
+        gate.gate.forget();
+        gate.text("q", "");
+        Gate.due("the key", gate.gate.sealed(0, 5), 6);
+        gate.gate.forget();
+        gate.suffix("b.a");
+        gate.gate.forget();
+        Gate.due("the SUFFIX", gate.house("d.c.b.a"), "b.a");
     }
 
     private static void sender() {
@@ -181,6 +228,17 @@ final class PromiseSentences {
         Gate.due("again", gate.gate.permission(), 3);
         gate.sender("x@b.a.com", 1);
         Gate.due("not what it is UNDER", gate.gate.permission(), 0);
+        // Each begins anew, whatever the one before has left.
+        for (String term : new String[] {"a/33", "ip4:1.2.3.4/99", "mx/-", "-a:", "?x", "a/0", "-include:none.com",
+            "exists:%"}) {
+            Gate again = new Gate();
+            again.text("b.com", "v=spf1 " + term);
+            again.text("c.com", "v=spf1 all");
+            again.sender("x@b.com", 1);
+            again.gate.permission();
+            again.sender("x@c.com", 1);
+            Gate.due("behind " + term, again.gate.permission(), 2);
+        }
     }
 
     private static void cost() {

@@ -84,6 +84,10 @@ final class SealSentences {
         }
         dueWell(field + "; z=1; zz=1; y=1", true);
         dueWell(field + "; z=1; zz=1; z=1", false);
+        dueWell(field + "; yza=1; yzb=1; xza=1", true);
+        dueWell(field + "; yza=1; yzb=1; yza=1", false);
+        dueWell(field + "; abcdefgh=1; abcdefgi=1; bbcdefgh=1", true);
+        dueWell(field + "; abcdefgh=1; abcdefgh=2", false);
         // Seven TAGS are there without these.
         for (int more = 30; more <= 36; more++) {
             StringBuilder text = new StringBuilder(field);
@@ -134,8 +138,9 @@ final class SealSentences {
             "n".repeat(20) + ":from", "fr om", " from : to "}) {
             dueWell(field.replace("h=from", "h=" + right), true);
         }
-        for (String wrong : new String[] {"", ":", "from:", ":from", "from::to", "to", "fromm", "fro", "xfrom",
-            "from,to", "from:a_b", "from:a.b", "n".repeat(21) + ":from", "from:" + "n".repeat(21), "from;to"}) {
+        for (String wrong : new String[] {"", ":", "from:", ":from", "from::to", "to", "date", "xrom", "fxom", "frox",
+            "fromm", "fro", "xfrom", "from,to", "from:a_b", "from:a.b", "n".repeat(21) + ":from", "from:"
+            + "n".repeat(21), "from;to"}) {
             dueWell(field.replace("h=from", "h=" + wrong), false);
         }
     }
@@ -146,7 +151,9 @@ final class SealSentences {
         String body = "a  b \n";
         String from = "From:  x@a.com ";
         String[] values = {"", "c=simple; ", "c=relaxed; ", "c=simple/simple; ", "c=simple/relaxed; ",
-            "c=relaxed/simple; ", "c=relaxed/relaxed; "};
+            "c=relaxed/simple; ", "c=relaxed/relaxed; ", ""};
+        Gate gate = new Gate();
+        gate.text(Letter.KEY_NAME, KEY);
         for (String c : values) {
             boolean fields = c.startsWith("c=relaxed");
             boolean bodies = c.endsWith("/relaxed; ");
@@ -154,6 +161,8 @@ final class SealSentences {
             String plain = fields ? "from:x@a.com\ndkim-signature:" + own.substring(16) : from + "\n" + own;
             String text = from + "\n" + own + SIGNER.signed(plain) + "\n\n" + body;
             Gate.due(c, Letter.answer(text, KEY), 2);
+            gate.message(text);
+            Gate.due(c + " behind the one before", gate.gate.sealed(0, 5), 2);
             Gate.due(c + " with another blank in From", Letter.answer(text.replace("com \n", "com\n"), KEY), fields
                     ? 2 : 3);
             Gate.due(c + " with another blank in the BODY", Letter.answer(text.replace("a  b", "a b"), KEY), bodies
@@ -176,6 +185,12 @@ final class SealSentences {
             }
         }
         duePass("x=999999999", Letter.own("x=999999999; ", BODY));
+        String first = OWN.replace("v=1;", "l=6; v=1;");
+        duePass("l first of all", first);
+        first = OWN.replace("v=1;", "l=5; v=1;");
+        dueSigned("a smaller l first of all", FROM + "\n" + first, first, 3);
+        first = OWN.replace("v=1;", "x=4; v=1;");
+        dueSigned("a smaller x first of all", FROM + "\n" + first, first, 3);
         dueWell(Letter.own("l=999999999; ", BODY) + Letter.NO_SIGNATURE, true);
         for (String other : new String[] {"t=x; ", "i=@; ", "q=; ", "z=a:b|c:d; ", "abcdefgh=1; ", "ll=x; ",
             "xx=x; "}) {
@@ -293,6 +308,9 @@ final class SealSentences {
         BigInteger p = SIGNER.modulus;
         Gate.due("the highest bit 0", Letter.answer(text, "p=" + Signer.packed(p.clearBit(511))), 6);
         Gate.due("the lowest bit 0", Letter.answer(text, "p=" + Signer.packed(p.clearBit(0))), 6);
+        BigInteger below = BigInteger.ONE.shiftLeft(511).subtract(BigInteger.ONE);
+        Gate.due("all bits but the highest", Letter.answer(text, "p=" + Signer.packed(below)), 6);
+        Gate.due("all bits", Letter.answer(text, "p=" + Signer.packed(below.setBit(511))), 3);
         Gate.due("another bit", Letter.answer(text, "p=" + Signer.packed(p.flipBit(510))), 3);
         Gate.due("another low bit", Letter.answer(text, "p=" + Signer.packed(p.flipBit(1))), 3);
         Gate.due("BROKEN before the BODY is looked at", Letter.answer(text.replace("hello", "hallo"), "x"), 6);
@@ -349,6 +367,11 @@ final class SealSentences {
         dueListed("from is taken once", "from:from", from, from, 2);
         dueListed("two of from", "from:from", from + "From: y\n", "From: y\n" + from, 2);
         dueListed("lines behind", "from:to", from + "To: b\n c\n\td\n", from + "To: b\n c\n\td\n", 2);
+        dueListed("a name that is nearly so", "from:to:cc", from + "tp: b\nuo: b\nc: d\nccc: d\n", from, 2);
+        String both = OWN.replace("h=from", "h=to:from:to");
+        String behind = both + SIGNER.signed("To: 2\n" + from + "To: 1\n" + both);
+        Gate.due("FIELDS behind the SEAL", Letter.answer("To: 1\n" + behind + "\n" + from + "To: 2\n\n" + BODY, KEY),
+                2);
         dueListed("byte 10 behind each", "from:to", from + "To: b\n", from + "To: b", 3);
         String own = OWN.replace("h=from", "c=relaxed; h=to:from");
         String plain = "to:b c\nfrom:x@a.com\ndkim-signature:" + own.substring(16);
@@ -365,6 +388,7 @@ final class SealSentences {
         String spread = b.substring(0, 20) + "\n  " + b.substring(20, 50) + " " + b.substring(50) + " ";
         Gate.due("WHITE and byte 10 in the value go", Letter.answer(Letter.with(OWN + spread), KEY), 2);
         String[][] fields = {
+            {"DKIM-Signature:b=", ";v=1; a=rsa-sha256; d=a.com; s=k; h=from; bh=" + Letter.sum(BODY)},
             {"DKIM-Signature: b=", "; v=1; a=rsa-sha256; d=a.com; s=k; h=from; bh=" + Letter.sum(BODY)},
             {"DKIM-Signature: v=1; a=rsa-sha256; b=", "; d=a.com; s=k; h=from; bh=" + Letter.sum(BODY) + ";"},
             {"DKIM-Signature: v=1; a=rsa-sha256;\n b\t=", "; d=a.com; s=k; h=from;\n\tbh=" + Letter.sum(BODY)},

@@ -38,6 +38,12 @@ final class SenderSentences {
         Gate.due("the address -1", gate.gate.permission(), 2);
         gate.sender("x@a.com", Integer.MAX_VALUE);
         Gate.due("the greatest address", gate.gate.permission(), 3);
+        // The longest SENDER of all is held whole: its last part is there.
+        String domain = Names.LONGEST.substring(0, 57) + ".yz";
+        gate.text(domain, "v=spf1 exists:%{s1} -all");
+        gate.address("yz", 1);
+        Gate.due("a SENDER of 91 bytes", gate.sender("x".repeat(30) + "@" + domain, 1), 0);
+        Gate.due("its last part", gate.gate.permission(), 2);
     }
 
     private static void answers() {

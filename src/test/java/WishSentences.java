@@ -218,6 +218,9 @@ final class WishSentences {
             Gate.due("a SEAL that is PASS until 5", wish(gate, Letter.sealed("x=5; ")), 2);
             String right = Letter.sealed("").substring(Letter.FROM.length() + 1);
             Gate.due("the second SEAL", wish(gate, Letter.FROM + "\ndkim-signature: x\n" + right), 2);
+            int end = right.indexOf("\n") + 1;
+            String first = right.substring(0, end) + Letter.FROM + "\n" + right.substring(end);
+            Gate.due("the SEAL before the FIELD from", wish(gate, first), 2);
             gate.text("k._domainkey.b.com", Letter.KEY);
             String own = Letter.own("", Letter.BODY).replace("d=a.com", "d=b.com");
             String other = own + Letter.SIGNER.signed(Letter.FROM + "\n" + own);
